@@ -1207,7 +1207,8 @@ public final class BeesBooks {
 
     /** Tells whole rows in thought: sales, their orders, entries to be judged. */
     private static final class Teller {
-        private static final int MOST_TWOS = Shelf.MOST_ELEMENTS / 2, MOST_ORDERED = 5, MOST_ORDERS = 120;
+        private static final int MOST_TWOS = Shelf.MOST_ELEMENTS / 2, MOST_THREES = Shelf.MOST_ELEMENTS / 3;
+        private static final int MOST_ORDERED = 5, MOST_ORDERS = 120;
 
         private final Scribe scribe;
         private final Comb thought;
@@ -1309,7 +1310,7 @@ public final class BeesBooks {
 
         int firstFalse(Shelf row, Comb comb) {
             thought.become(comb);
-            for (int i = 0; row.hasPlace(3 * i); i++) {
+            for (int i = 0; i < MOST_THREES && row.hasPlace(3 * i); i++) {
                 int account = row.byteAt(3 * i);
                 int sum = row.byteAt(3 * i + 1);
                 boolean sale = row.hasPlace(3 * i + 2) && scribe.isSale(account, sum);

@@ -237,6 +237,10 @@ public final class LawTest {
         DUE.is("where by r still", books.where(1), 42);
         DUE.is("another law", told(books, "0-r"), 1);
         DUE.is("where by 0-r", books.where(1), 0);
+        DUE.is("a longer text", told(books, "r=30"), 1);
+        DUE.is("none is row 30", books.where(1), 0);
+        DUE.is("a shorter one behind it", told(books, "r=3"), 1);
+        DUE.is("without what the tape held before", books.where(1), 21);
     }
 
     private static void manyTexts() {

@@ -995,22 +995,38 @@ public final class PromiseTest {
         fortyAreKept();
     }
 
+    private static final int TOLD = 46;
+
+    /** By turns a door, the guards, the other door, the flip; never the number that is there. */
+    private static int[] change(int i) {
+        int[][] things = {{0, 0}, {0, 1}, {1, 0}, {0, 2}};
+        int[] thing = things[i % 4];
+        return new int[] {thing[0], thing[1], 1 + (thing[1] == 0 ? i : 5 * i / 4 % (thing[1] == 1 ? 11 : 6))};
+    }
+
     private static void fortyAreKept() {
         BeesBooks x = new BeesBooks();
-        for (int i = 0; i < 43; i++) {
-            x.mend(0, 1, i % 13);
+        x.account(0);
+        x.account(0);
+        int[] before = new int[TOLD];
+        int changes = 0;
+        for (int i = 0; i < TOLD; i++) {
+            int[] change = change(i);
+            before[i] = x.mend(change[0], change[1], change[2]);
+            changes += before[i] == change[2] ? 0 : 1;
         }
+        is("each is a change", changes, TOLD);
         is("40 at most", x.count(4), 40);
-        for (int i = 39; i >= 0; i--) {
-            is("undo", x.undo(), i);
+        for (int i = TOLD - 1; i >= TOLD - 40; i--) {
+            is("undo", x.undo(), i - (TOLD - 40));
+            is("what it was", x.of(change(i)[0], change(i)[1]), before[i]);
         }
         is("no more", x.undo(), -5);
-        is("the oldest that is kept", x.of(0, 1), 2);
-        for (int i = 39; i >= 0; i--) {
-            is("redo", x.redo(), i);
+        for (int i = TOLD - 40; i < TOLD; i++) {
+            is("redo", x.redo(), TOLD - 1 - i);
+            is("what it became", x.of(change(i)[0], change(i)[1]), change(i)[2]);
         }
         is("no more", x.redo(), -5);
-        is("the latest", x.of(0, 1), 42 % 13);
     }
 
     private static void promise37() {
