@@ -37,7 +37,7 @@ public final class BeesBooks {
     }
 
     public int accounts(int shelf, int i, int n) {
-        if (!isShelf(shelf) || i < 0 || n < 1 || n > Settings.MOST_ACCOUNTS) {
+        if (!isShelf(shelf) || n < 1 || n > Settings.MOST_ACCOUNTS) {
             return BAD;
         }
         Shelf row = shelves[shelf];
@@ -1216,6 +1216,7 @@ public final class BeesBooks {
         private int told = 0;
         private final int[] places = new int[MOST_ORDERED];
         private final int[] bestPlaces = new int[MOST_ORDERED];
+        private int sales = 0;
         private int ordered = 0;
 
         Teller(Grid grid, Scribe scribe) {
@@ -1226,10 +1227,8 @@ public final class BeesBooks {
         int tell(Shelf row, Comb comb) {
             thought.become(comb);
             told = 0;
-            for (int i = 0; i < MOST_TWOS && row.hasPlace(2 * i + 1); i++) {
-                int account = row.byteAt(2 * i);
-                int sum = row.byteAt(2 * i + 1);
-                int cell = scribe.isSale(account, sum) ? scribe.write(thought, account, sum) : NOT;
+            for (int i = 0; i < MOST_TWOS && isSaleAt(row, i); i++) {
+                int cell = scribe.write(thought, row.byteAt(2 * i), row.byteAt(2 * i + 1));
                 if (cell < 0) {
                     break;
                 }
@@ -1237,6 +1236,11 @@ public final class BeesBooks {
                 told++;
             }
             return told;
+        }
+
+        /** Whether the i-th two tells an account and a sum; a sale that will find no cell is one, too. */
+        private boolean isSaleAt(Shelf row, int i) {
+            return row.hasPlace(2 * i + 1) && scribe.isSale(row.byteAt(2 * i), row.byteAt(2 * i + 1));
         }
 
         int cellOf(int k) {
@@ -1248,8 +1252,8 @@ public final class BeesBooks {
         }
 
         int seekOrder(Shelf row, Comb comb, int account, int n) {
-            tell(row, comb);
-            ordered = Math.min(told, MOST_ORDERED);
+            sales = salesIn(row);
+            ordered = Math.min(sales, MOST_ORDERED);
             for (int i = 0; i < ordered; i++) {
                 places[i] = i;
             }
@@ -1270,11 +1274,21 @@ public final class BeesBooks {
             return k >= 0 && k < ordered ? bestPlaces[k] : NOT;
         }
 
+        private int salesIn(Shelf row) {
+            int count = 0;
+            while (count < MOST_TWOS && isSaleAt(row, count)) {
+                count++;
+            }
+            return count;
+        }
+
+        /** Which sales find no cell depends on the order in which they are told. */
         private int outcome(Shelf row, Comb comb, int account, int n) {
             thought.become(comb);
-            for (int i = 0; i < told; i++) {
+            boolean written = true;
+            for (int i = 0; i < sales && written; i++) {
                 int place = i < ordered ? places[i] : i;
-                scribe.write(thought, row.byteAt(2 * place), row.byteAt(2 * place + 1));
+                written = scribe.write(thought, row.byteAt(2 * place), row.byteAt(2 * place + 1)) >= 0;
             }
             thought.eatCells(n);
             return thought.balanceOf(account);

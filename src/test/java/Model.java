@@ -226,7 +226,7 @@ final class Model {
     }
 
     int accounts(int shelf, int i, int n) {
-        if (!shelfIs(shelf) || i < 0 || n < 1 || n > 6) {
+        if (!shelfIs(shelf) || n < 1 || n > 6) {
             return BAD;
         }
         if (shelves[shelf] == null) {
@@ -237,7 +237,7 @@ final class Model {
         }
         byte[] row = (byte[]) shelves[shelf];
         for (int came = 0; came < n; came++) {
-            if ((long) i + came >= row.length || account(row[i + came]) < 0) {
+            if (i < 0 || (long) i + came >= row.length || account(row[i + came]) < 0) {
                 return came;
             }
         }
@@ -349,19 +349,26 @@ final class Model {
         return shelves[shelf] == null ? -11 : shelves[shelf] instanceof byte[] ? 0 : -12;
     }
 
-    private List<int[]> salesOn(Entry[] on, byte[] row) {
-        List<int[]> told = new ArrayList<>();
-        for (int i = 0; i + 1 < row.length; i += 2) {
-            if (!saleIs(row[i], row[i + 1])) {
-                break;
-            }
-            int cell = writeOn(on, row[i], row[i + 1]);
+    /** The twos that are sales, whether or not they will find a cell. */
+    private List<int[]> salesOf(byte[] row) {
+        List<int[]> sales = new ArrayList<>();
+        for (int i = 0; i + 1 < row.length && saleIs(row[i], row[i + 1]); i += 2) {
+            sales.add(new int[] {row[i], row[i + 1]});
+        }
+        return sales;
+    }
+
+    /** The cells of those that are written. */
+    private List<Integer> salesOn(Entry[] on, List<int[]> sales) {
+        List<Integer> cells = new ArrayList<>();
+        for (int[] sale : sales) {
+            int cell = writeOn(on, sale[0], sale[1]);
             if (cell < 0) {
                 break;
             }
-            told.add(new int[] {row[i], row[i + 1], cell});
+            cells.add(cell);
         }
-        return told;
+        return cells;
     }
 
     int sales(int shelf, int k) {
@@ -371,8 +378,8 @@ final class Model {
         if (bytesFault(shelf) != 0) {
             return bytesFault(shelf);
         }
-        List<int[]> told = salesOn(comb.clone(), (byte[]) shelves[shelf]);
-        return k == -1 ? told.size() : k < told.size() ? told.get(k)[2] : NOT;
+        List<Integer> cells = salesOn(comb.clone(), salesOf((byte[]) shelves[shelf]));
+        return k == -1 ? cells.size() : k < cells.size() ? cells.get(k) : NOT;
     }
 
     int balance(int shelf, int account) {
@@ -383,7 +390,7 @@ final class Model {
             return bytesFault(shelf);
         }
         Entry[] on = comb.clone();
-        salesOn(on, (byte[]) shelves[shelf]);
+        salesOn(on, salesOf((byte[]) shelves[shelf]));
         return balance(on, account);
     }
 
@@ -428,17 +435,18 @@ final class Model {
         if (bytesFault(shelf) != 0) {
             return bytesFault(shelf);
         }
-        List<int[]> told = salesOn(comb.clone(), (byte[]) shelves[shelf]);
+        List<int[]> sales = salesOf((byte[]) shelves[shelf]);
         List<List<Integer>> all = new ArrayList<>();
-        orders(new ArrayList<>(), Math.min(5, told.size()), all);
+        orders(new ArrayList<>(), Math.min(5, sales.size()), all);
         int best = -1;
         List<Integer> bestOrder = null;
         for (List<Integer> order : all) {
-            Entry[] on = comb.clone();
-            for (int i = 0; i < told.size(); i++) {
-                int[] sale = told.get(i < order.size() ? order.get(i) : i);
-                writeOn(on, sale[0], sale[1]);
+            List<int[]> told = new ArrayList<>(sales);
+            for (int i = 0; i < order.size(); i++) {
+                told.set(i, sales.get(order.get(i)));
             }
+            Entry[] on = comb.clone();
+            salesOn(on, told);
             winterOn(on, an % 100);
             if (balance(on, an / 100) > best) {
                 best = balance(on, an / 100);

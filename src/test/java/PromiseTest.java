@@ -185,7 +185,15 @@ public final class PromiseTest {
         is("n 7 of ints", y.accounts(2, 0, 7), -1);
         is("shelf -1", y.accounts(-1, 0, 1), -1);
         is("shelf 6", y.accounts(6, 0, 1), -1);
-        is("i -1", y.accounts(3, -1, 1), -1);
+        is("i -1", y.accounts(3, -1, 1), 0);
+        is("i -1, n 6", y.accounts(3, -1, 6), 0);
+        is("i min", y.accounts(3, Integer.MIN_VALUE, 6), 0);
+        is("i -1 of what is missing", y.accounts(0, -1, 1), 0);
+        is("i -1 of a hive", y.accounts(1, -1, 1), -12);
+        is("i -1 of ints", y.accounts(2, -1, 1), -12);
+        is("i -1, n 0", y.accounts(3, -1, 0), -1);
+        is("i -1, n 7", y.accounts(3, -1, 7), -1);
+        is("i -1 of shelf 6", y.accounts(6, -1, 1), -1);
         is("i 6", y.accounts(3, 6, 1), 0);
         is("i max", y.accounts(3, Integer.MAX_VALUE, 6), 0);
         is("none came", y.count(0), 1);
@@ -492,12 +500,46 @@ public final class PromiseTest {
         row(x, 0);
         is("no sales", x.order(0, 0, -1), 0);
         is("no first", x.order(0, 0, 0), -2);
-        BeesBooks y = full(1);
-        y.fly(200);
-        row(y, 0, 1, 1, 2, 6);
-        is("a two that finds no cell is none", y.order(0, 200, -1), 0);
-        is("one is told", y.order(0, 200, 0), 0);
-        is("no second", y.order(0, 200, 1), -2);
+        orderOfScarceCells();
+    }
+
+    /** A two that finds no cell is a sale of the row all the same; told in an order, it ends that order. */
+    private static void orderOfScarceCells() {
+        BeesBooks x = full(1);
+        row(x, 0, 1, 1, 2, 6);
+        is("no cell is empty", x.order(0, 200, -1), 0);
+        is("the first by places", x.order(0, 200, 0), 0);
+        is("both have places", x.order(0, 200, 1), 1);
+        is("no third", x.order(0, 200, 2), -2);
+        x.fly(200);
+        is("the greater sale is told first", x.order(0, 200, -1), 6);
+        is("its place", x.order(0, 200, 0), 1);
+        is("the one that finds no cell", x.order(0, 200, 1), 0);
+        is("no third of two", x.order(0, 200, 2), -2);
+        is("as the row says", x.order(0, 100, 0), 0);
+        is("one of them is written", x.sales(0, -1), 1);
+        row(x, 0, 1, 1, 2, 0, 2, 6);
+        is("behind a two that is none", x.order(0, 200, -1), 0);
+        is("no second behind it", x.order(0, 200, 1), -2);
+        row(x, 0, 1, 1, 1, 2, 1, 3, 1, 4, 1, 5, 2, 6);
+        is("the sixth stays behind", x.order(0, 200, -1), 0);
+        is("the fifth is told first", x.order(0, 100, 0), 4);
+        is("then the first", x.order(0, 100, 1), 0);
+        is("no sixth", x.order(0, 100, 5), -2);
+        x.fly(300);
+        x.fly(400);
+        is("three cells", x.order(0, 100, -1), 3 + 4 + 5);
+        is("the three first", x.order(0, 100, 0), 2);
+        is("the three second", x.order(0, 100, 1), 3);
+        is("the three third", x.order(0, 100, 2), 4);
+        is("then those without a cell", x.order(0, 100, 3), 0);
+        is("and the last", x.order(0, 100, 4), 1);
+        is("a winter of all", x.order(0, 149, -1), 0);
+        x.fly(0);
+        x.fly(100);
+        x.fly(480);
+        is("six cells", x.order(0, 200, -1), 6);
+        is("in thought only", x.count(1), 49 - 6);
     }
 
     private static void promise16() {
