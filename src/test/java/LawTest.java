@@ -164,9 +164,7 @@ public final class LawTest {
     }
 
     private static int freshWhere(int as) {
-        BeesBooks books = new BeesBooks();
-        books.account(24);
-        return books.where(as);
+        return withDoor24().where(as);
     }
 
     private static int wrapped() {
@@ -197,9 +195,14 @@ public final class LawTest {
         DUE.is("where the other's are", own.where(11), 7);
     }
 
-    private static void limits() {
+    private static BeesBooks withDoor24() {
         BeesBooks books = new BeesBooks();
         books.account(24);
+        return books;
+    }
+
+    private static void limits() {
+        BeesBooks books = withDoor24();
         for (int i = 0; i < 60; i++) {
             DUE.is("feed", books.feed('r'), 2 * i + 1);
             DUE.is("feed", books.feed(i == 59 ? 'r' : '+'), 2 * i + 2);
@@ -215,12 +218,14 @@ public final class LawTest {
         }
         DUE.is("60 lines", told(books, lines + "r"), 1);
         DUE.is("by the first line", books.where(1), 0);
+        books = withDoor24();
         DUE.is("59 lines and a condition", told(books, lines.substring(2) + "1?r"), 1);
         DUE.is("ends after 120 bytes", told(books, lines + "r;"), -100 - 120);
         StringBuilder conditions = new StringBuilder();
         for (int i = 0; i < 29; i++) {
             conditions.append("0?9;");
         }
+        books = withDoor24();
         DUE.is("30 lines", told(books, conditions + "1?r"), 1);
         DUE.is("by the last line", books.where(1), 42);
         DUE.is("feed(-1)", books.feed(-1), -1);
