@@ -71,6 +71,15 @@ public final class BoundaryCombTest extends Boundary {
         isText("a new object beside a used one", Face.of(BeesBooks::new), before);
     }
 
+    static void promise1_the512thCall() {
+        BeesBooks x = Scenes.with(24);
+        for (int call = 2; call <= 510; call++) {
+            is("far(0, 48) by call " + call, x.far(0, 48), 9);
+        }
+        is("sale(1) by call 511", x.sale(1), 24);
+        is("count(1) by call 512", x.count(1), 1);
+    }
+
     // ---- promise 2: account
 
     static void promise2_door0() {
