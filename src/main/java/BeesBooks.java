@@ -1566,8 +1566,8 @@ public final class BeesBooks {
             truth = 0;
             setSums[0] = 0;
             readSum = comb.balanceOf(account);
-            while (count < MOST_CELLS && row.hasPlace(count) && isUnread(row.byteAt(count), comb)) {
-                addCell(row.byteAt(count), comb, account);
+            for (int i = 0; i < MOST_CELLS && row.hasPlace(i) && isUnread(row.byteAt(i), comb); i++) {
+                addCell(row.byteAt(i), comb, account);
             }
         }
 

@@ -1,13 +1,10 @@
 import com.sun.source.tree.ClassTree;
-import com.sun.source.tree.CompilationUnitTree;
 import com.sun.source.tree.MethodInvocationTree;
 import com.sun.source.tree.MethodTree;
 import com.sun.source.tree.NewClassTree;
-import com.sun.source.util.JavacTask;
 import com.sun.source.util.TreePathScanner;
 import com.sun.source.util.Trees;
 import java.io.IOException;
-import java.nio.file.Path;
 import java.util.ArrayList;
 import java.util.Collections;
 import java.util.List;
@@ -18,13 +15,9 @@ import java.util.TreeSet;
 import javax.lang.model.element.Element;
 import javax.lang.model.element.ExecutableElement;
 import javax.lang.model.element.Modifier;
-import javax.tools.JavaCompiler;
-import javax.tools.StandardJavaFileManager;
-import javax.tools.ToolProvider;
 
 /** LANGUAGE.md's rules 8 and 11 on calls: at most eight deep, and no recursion but the acts' own. */
 public final class DepthTest extends TreePathScanner<Void, Void> {
-    private static final Path FILE = Path.of("src/main/java/BeesBooks.java");
     private static final int DEEPEST = 8;
     private static final Set<String> RECURSIVE = Set.of("Hives.acted");
 
@@ -40,18 +33,7 @@ public final class DepthTest extends TreePathScanner<Void, Void> {
     }
 
     public static void main(String[] args) throws IOException {
-        JavaCompiler compiler = ToolProvider.getSystemJavaCompiler();
-        try (StandardJavaFileManager files = compiler.getStandardFileManager(null, null, null)) {
-            List<String> options = List.of("-proc:none");
-            JavacTask task = (JavacTask) compiler.getTask(null, files, null, options, null, files.getJavaFileObjects(FILE));
-            DepthTest test = new DepthTest(Trees.instance(task));
-            Iterable<? extends CompilationUnitTree> units = task.parse();
-            task.analyze();
-            for (CompilationUnitTree unit : units) {
-                test.scan(unit, null);
-            }
-            test.measure();
-        }
+        Source.scan(DepthTest::new).measure();
     }
 
     private static String nameOf(Element element) {
